@@ -50,10 +50,11 @@ public final class LeasedReferences {
     private int nextPass;
 
     public LeasedReferences() {
-        network = new Network();
+        Network shared = new Network();
+        network = shared;
         nodes = new Node[NODES];
         for (int i = 0; i < NODES; i++) {
-            nodes[i] = new Node(i, network);
+            nodes[i] = new Node(i, shared);
         }
         taken = new Message();
         nextSerial = 0;
@@ -147,7 +148,7 @@ public final class LeasedReferences {
         if (!network.hasPlace(k)) {
             return NONE;
         }
-        // The place in flight is used again by what the receiver sends, so the message is read from a row of its own.
+        // What the receiver sends may be written on the row that was in flight, so it is read from another.
         taken.become(network.messages[k]);
         network.takeOut(k);
         return nodes[taken.receiver].receive(taken) ? 1 : 0;

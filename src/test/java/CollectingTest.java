@@ -155,6 +155,22 @@ public final class CollectingTest {
             deliver 0 = 1
             collect 0 = 1
             """);
+        Script.run("a listing of node 0 keeps, too, and its calls are done", """
+            make 1 0 = 0
+            pass 1 0 0 0 = 0
+            deliver 0 = 1 x 4
+            call 0 0 3 = 1
+            deliver 0 = 1
+            slot 1 0 2 = 3
+            deliver 0 = 1
+            outcome 0 2 = 3
+            drop 1 0 = 1
+            collect 1 = 0
+            tick 6 = 1
+            flight = 1
+            message 0 0 = 2
+            message 0 1 = 0
+            """);
         Script.run("a call that waits keeps its surrogate", Start.GOOD, """
             call 1 0 5 = 1
             drop 1 0 = 1

@@ -48,8 +48,8 @@ public final class FaceTest {
         for (Method m : LeasedReferences.class.getDeclaredMethods()) {
             if (Modifier.isPublic(m.getModifiers())) {
                 expect(!Modifier.isStatic(m.getModifiers()), m.getName() + " is not static");
-                String parameters = String.join(", ", Arrays.stream(m.getParameterTypes()).map(Class::getName).toList());
-                found.add(m.getReturnType().getName() + " " + m.getName() + "(" + parameters + ")");
+                List<String> types = Arrays.stream(m.getParameterTypes()).map(Class::getName).toList();
+                found.add(m.getReturnType().getName() + " " + m.getName() + "(" + String.join(", ", types) + ")");
             }
         }
         expect(found.equals(new TreeSet<>(FACE)), "the public methods are the document's: " + found);

@@ -107,11 +107,11 @@ public final class ModelTest {
             case 2: return both("fetch", node, below(3), below(2), below(3));
             case 3: return both("drop", node, below(3));
             case 4: return both("pass", node, below(3), below(nodesInUse), below(3));
-            case 5: return both("call", node, root(node), random.nextInt(3) == 0 ? random.nextInt() : random.nextInt(9));
+            case 5: return both("call", node, root(node), random.nextInt() >> random.nextInt(32));
             case 6: return both("deliver", place());
             case 7: return both("lose", place());
             case 8: return both("copy", place());
-            case 9: return both("tick", random.nextInt(30) == 0 ? odd() : 1 + random.nextInt(random.nextBoolean() ? 4 : 12));
+            case 9: return both("tick", 1 + below(random.nextBoolean() ? 4 : 12));
             case 10: return both("collect", node);
             case 11: return both("crash", node);
             default: return lateCall(node);

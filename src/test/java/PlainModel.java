@@ -186,7 +186,8 @@ final class PlainModel implements Subject {
         }
         Thing thing = node.slots[a[1]];
         if (name.equals("listing")) {
-            return a[2] < 0 || a[2] > 3 || a[2] == a[0] || !(thing instanceof Obj) ? -1 : ((Obj) thing).left.getOrDefault(a[2], 0);
+            boolean otherNode = a[2] >= 0 && a[2] <= 3 && a[2] != a[0];
+            return otherNode && thing instanceof Obj o ? o.left.getOrDefault(a[2], 0) : -1;
         }
         if (a[2] < 0 || a[2] > 4) {
             return -1;
