@@ -1,15 +1,5 @@
 /** Promise 18, and how DIRTY, LISTED, GONE and CLEAN come to a node. */
 public final class ListingTest {
-    /** Object 0 of node 0 is freed at 24, and a PASS of it is still in flight. */
-    private static final String FREED = """
-        make 0 0 = 0
-        pass 0 0 1 0 = 0
-        drop 0 0 = 1
-        tick 12 = 1
-        tick 12 = 1
-        collect 0 = 1
-        """;
-
     public static void main(String[] args) {
         listing();
         dirtyComes();
@@ -132,7 +122,7 @@ public final class ListingTest {
             deliver 0 = 1
             slot 1 0 3 = 30
             """);
-        Script.run("DIRTY for an object that is gone", FREED, """
+        Script.run("DIRTY for an object that is gone", Start.FREED, """
             deliver 0 = 1
             tick 1 = 1
             flight = 1
@@ -220,7 +210,7 @@ public final class ListingTest {
     }
 
     private static void goneComes() {
-        Script.run("GONE makes STALE", FREED, """
+        Script.run("GONE makes STALE", Start.FREED, """
             deliver 0 = 1
             deliver 0 = 1
             copy 0 = 1
@@ -256,7 +246,7 @@ public final class ListingTest {
             deliver 0 = 1           # GONE 2
             slot 1 0 2 = 2
             """);
-        Script.run("GONE where there is no surrogate", FREED, """
+        Script.run("GONE where there is no surrogate", Start.FREED, """
             deliver 0 = 1
             deliver 0 = 1
             drop 1 0 = 1

@@ -6,8 +6,7 @@ import java.util.TreeMap;
 
 /**
  * All promises: long runs of calls, drawn with fixed seeds, on the program and on PlainModel side by side. Short runs
- * end with a look at everything; long ones read now and then. None is longer than the document's 512 calls, but for
- * the look at the end.
+ * end with a look at everything; long ones read now and then. None is longer than the document's 512 calls.
  */
 public final class ModelTest {
     private static final int SHORT_RUNS = 12000;
@@ -20,7 +19,7 @@ public final class ModelTest {
     private final Random random;
     private final Subject real = new Real();
     private final Subject model = new PlainModel();
-    private final List<String> done = new ArrayList<>();
+    private final List<Call> done = new ArrayList<>();
     private final TreeMap<String, Integer> seen;
     private final int[] weights = new int[13];
     private final boolean oldestFirst;
@@ -61,12 +60,12 @@ public final class ModelTest {
 
     private boolean shortRun() {
         int calls = 1 + random.nextInt(160);
-        for (int i = 0; i < calls; i++) {
+        for (int i = 0; i < calls && done.size() < MOST_CALLS - MOST_IN_ONE_CHANGE; i++) {
             if (!change()) {
                 return false;
             }
         }
-        List<String> got = View.of(real);
+        List<String> got = View.of(new Behind(done));
         List<String> want = View.of(model);
         if (!got.equals(want)) {
             System.out.println("after " + done + "\n  shows " + got + "\n  due is " + want);
@@ -88,7 +87,7 @@ public final class ModelTest {
         String kind = name.equals("deliver") ? String.valueOf(model.answer("message", a[0], 0)) : "";
         int want = model.answer(name, a);
         int got = real.answer(name, a);
-        done.add(name + Arrays.toString(a));
+        done.add(new Call(name, a));
         clock += name.equals("tick") && want == 1 ? a[0] : 0;
         if (!kind.isEmpty() && want >= 0) {
             seen.merge(kind + (want == 1 ? " kept" : " dropped"), 1, Integer::sum);

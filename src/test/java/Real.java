@@ -1,9 +1,20 @@
-/** The program under test as a Subject. */
+/** The program under test as a Subject. What a 513th call would answer is free, so no test may make it. */
 final class Real implements Subject {
+    private static final int MOST_CALLS = 512;
+
     private final LeasedReferences x = new LeasedReferences();
+    private int calls = 0;
+
+    int callsLeft() {
+        return MOST_CALLS - calls;
+    }
 
     @Override
     public int answer(String name, int... a) {
+        if (callsLeft() == 0) {
+            throw new IllegalStateException("the test makes more calls than the document allows");
+        }
+        calls++;
         switch (name) {
             case "make": return x.make(a[0], a[1]);
             case "link": return bit(x.link(a[0], a[1], a[2], a[3]));
