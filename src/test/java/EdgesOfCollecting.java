@@ -13,6 +13,7 @@ final class EdgesOfCollecting {
         calls();
         listings();
         fields();
+        noFields();
         emptied();
         howMany();
         crash();
@@ -248,6 +249,34 @@ final class EdgesOfCollecting {
             slot 0 0 0 = 1
             drop 0 1 = 1
             collect 0 = 8
+            """);
+    }
+
+    private static void noFields() {
+        Script.edge(KEPT, """
+            make 0 0 = 0
+            make 0 1 = 1
+            link 0 0 0 1 = 1
+            link 0 0 1 1 = 1
+            drop 0 0 = 1
+            collect 0 = 1
+            make 1 0 = 2
+            pass 1 0 0 0 = 0
+            deliver 0 = 1           # a surrogate where an object with fields was
+            slot 0 0 0 = 2
+            drop 0 1 = 1
+            collect 0 = 1           # it has none
+            slot 0 1 0 = 0
+            """);
+        Script.edge(KEPT, """
+            make 1 0 = 0
+            pass 1 0 0 0 = 0
+            deliver 0 = 1 x 4
+            slot 0 0 4 = 1          # the owner 1 is no slot
+            make 0 1 = 1
+            drop 0 1 = 1
+            collect 0 = 1
+            slot 0 1 0 = 0
             """);
     }
 

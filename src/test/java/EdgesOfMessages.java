@@ -265,6 +265,17 @@ final class EdgesOfMessages {
             deliver 0 = 0           # TAKEN for pass 0: the pin of pass 1 is another
             pins 0 = 1
             """);
+        Script.edge(taken, """
+            make 0 0 = 0
+            pass 0 0 1 0 = 0
+            copy 0 = 1
+            deliver 0 = 1
+            deliver 1 = 1 x 3
+            pins 0 = 0
+            deliver 0 = 1           # PASS again, TAKEN again
+            message 0 0 = 1
+            deliver 0 = 0
+            """);
         Script.edge(taken, Start.PENDING, """
             deliver 0 = 1 x 2
             pass 0 0 2 0 = 1
@@ -367,6 +378,17 @@ final class EdgesOfMessages {
             message 2 5 = 0
             deliver 1 = 1           # and LAST is still 2
             message 2 4 = 1
+            listing 0 0 1 = 23
+            """);
+        Script.edge(older, Start.PENDING, """
+            tick 6 = 1
+            copy 1 = 1
+            deliver 1 = 1           # DIRTY 2, listed until 30
+            tick 1 = 1
+            deliver 0 = 1           # DIRTY 1 leaves LAST as it is
+            message 0 0 = 2
+            message 0 4 = 2
+            deliver 0 = 1           # DIRTY 2 again is not greater
             listing 0 0 1 = 23
             """);
         Script.edge(older, Start.PENDING, """
@@ -543,7 +565,10 @@ final class EdgesOfMessages {
             tick 1 = 1
             flight = 0              # no DIRTY at 30
             slot 1 0 3 = 29
-            root 1 0 = 0            # the root still refers to it
+            slot 1 0 0 = 2          # it is there, and the root still refers to it
+            slot 1 0 1 = 0
+            slot 1 0 4 = 0
+            root 1 0 = 0
             """);
     }
 
@@ -711,6 +736,39 @@ final class EdgesOfMessages {
             message 10 4 = 1
             message 10 5 = 5
             """);
+        Script.edge(again, Start.GOOD, """
+            call 1 0 5 = 1
+            copy 0 = 1
+            deliver 0 = 1
+            deliver 1 = 1
+            drop 0 0 = 1
+            tick 12 = 1
+            tick 11 = 1
+            call 1 0 6 = 2
+            tick 1 = 1
+            collect 0 = 1
+            deliver 4 = 1
+            message 4 0 = 8
+            message 4 4 = 2
+            message 0 0 = 6
+            message 0 4 = 1
+            deliver 0 = 0           # one that NOOBJECT answered is done, too
+            """);
+        Script.edge(again, Start.GOOD, """
+            make 0 1 = 1
+            pass 0 1 1 1 = 1
+            deliver 0 = 1 x 4
+            call 1 0 5 = 1
+            copy 0 = 1
+            deliver 0 = 1
+            deliver 1 = 1
+            call 1 1 6 = 2
+            deliver 1 = 1
+            slot 0 1 2 = 6
+            message 0 3 = 0
+            deliver 0 = 0           # the latest call counts, of whichever object
+            slot 0 0 2 = 5
+            """);
     }
 
     private static void reply() {
@@ -766,6 +824,20 @@ final class EdgesOfMessages {
             outcome 1 1 = 1
             outcome 1 2 = 0
             flight = 3
+            """);
+        Script.edge("NOOBJECT: the call FAILED.", Start.GOOD, """
+            call 1 0 8 = 1
+            deliver 0 = 1 x 2
+            drop 0 0 = 1
+            tick 12 = 1
+            tick 11 = 1
+            call 1 0 5 = 2
+            tick 1 = 1
+            collect 0 = 1
+            deliver 3 = 1 x 2
+            outcome 1 0 = 3
+            outcome 1 1 = 2
+            outcome 1 2 = 8         # the RESULT of call 1 stays
             """);
     }
 }

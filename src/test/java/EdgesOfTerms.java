@@ -8,9 +8,12 @@ final class EdgesOfTerms {
         objects();
         crashedCalls();
         crashedMessages();
+        crashedSenders();
         surrogates();
         flight();
+        kinds();
         numbers();
+        sent();
         pending();
         callsAndPins();
         refusals();
@@ -68,6 +71,13 @@ final class EdgesOfTerms {
             slot 4 0 0 = -1
             slot -1 0 0 = -1
             """);
+        for (int owner = 0; owner < 4; owner++) {
+            for (int client = 0; client < 4; client++) {
+                if (client != owner) {
+                    eachRole(owner, client);
+                }
+            }
+        }
         Script.edge("A slot is empty, or holds an OBJECT of the node, or a SURROGATE for an object of another node.",
             Start.GOOD, """
             slot 0 0 0 = 1
@@ -95,6 +105,47 @@ final class EdgesOfTerms {
             root 0 0 = 0
             root 1 0 = 0
             """);
+    }
+
+    /** Every node can be an owner and a client of every other. */
+    private static void eachRole(int owner, int client) {
+        String script = """
+            make O 1 = 0
+            pass O 1 C 2 = 0
+            deliver 0 = 1 x 4
+            listing O 0 C = 24
+            slot C 0 4 = O
+            call C 2 5 = 1
+            tick 6 = 1
+            flight = 4              # CALL at 0, 3 and 6, DIRTY at 6
+            message 2 0 = 2
+            message 2 1 = C
+            message 2 2 = O
+            deliver 0 = 1
+            slot O 0 2 = 5
+            deliver 0 = 1           # CALL again
+            slot O 0 2 = 5
+            deliver 0 = 1           # DIRTY
+            listing O 0 C = 24
+            deliver 0 = 1           # CALL again
+            deliver 0 = 1           # ANSWER
+            outcome C 0 = 2
+            outcome C 2 = 5
+            deliver 0 = 0           # ANSWER again
+            deliver 0 = 1           # LISTED
+            slot C 0 3 = 30
+            lose 0 = 1
+            drop C 2 = 1
+            collect C = 1
+            message 0 0 = 5
+            message 0 1 = C
+            message 0 2 = O
+            deliver 0 = 1
+            listing O 0 C = 0
+            drop O 1 = 1
+            collect O = 1
+            """.replaceAll("\\bO\\b", "" + owner).replaceAll("\\bC\\b", "" + client);
+        Script.edge("NODES 0 .. 3 each have eight SLOTS 0 .. 7, three ROOTS 0 .. 2, and PINS.", script);
     }
 
     private static void objects() {
@@ -164,6 +215,30 @@ final class EdgesOfTerms {
             listing 0 0 1 = 24
             listing 0 0 2 = 0
             listing 0 0 3 = 0
+            """);
+        Script.edge(object, Start.THREE_PENDING, """
+            deliver 2 = 1           # DIRTY 3, for object 2
+            deliver 0 = 1           # DIRTY 1, for object 0, which has a LAST of its own
+            listing 0 0 1 = 24
+            listing 0 1 1 = 0
+            listing 0 2 1 = 24
+            """);
+        Script.edge(object, Start.GOOD, """
+            call 1 0 7 = 1
+            deliver 0 = 1 x 2
+            drop 1 0 = 1
+            collect 1 = 1
+            deliver 0 = 1
+            drop 0 0 = 1
+            collect 0 = 1
+            make 0 0 = 1
+            slot 0 0 2 = 0          # 0 at first, whatever the slot held before
+            listing 0 0 1 = 0
+            pass 0 0 1 0 = 1
+            deliver 0 = 1 x 4
+            call 1 0 2 = 2
+            deliver 0 = 1
+            slot 0 0 2 = 2
             """);
         Script.edge(object, """
             make 0 0 = 0
@@ -306,6 +381,90 @@ final class EdgesOfTerms {
             """);
     }
 
+    /** What a node sent before it crashed comes all the same, and what is sent to it is put into the flight. */
+    private static void crashedSenders() {
+        String sends = "it sends nothing and keeps all that it has.";
+        Script.edge(sends, """
+            make 0 0 = 0
+            pass 0 0 1 0 = 0
+            crash 0 = 1
+            deliver 0 = 1           # PASS
+            slot 1 0 2 = 0
+            flight = 1
+            deliver 0 = 0           # DIRTY
+            tick 6 = 1
+            flight = 1              # and again
+            """);
+        Script.edge(sends, Start.GOOD, """
+            pass 1 0 0 2 = 1
+            crash 1 = 1
+            deliver 0 = 1           # PASS
+            root 0 2 = 0
+            flight = 1
+            deliver 0 = 0           # TAKEN
+            pins 1 = 1
+            """);
+        Script.edge(sends, Start.PENDING, """
+            crash 1 = 1
+            deliver 0 = 1           # DIRTY
+            listing 0 0 1 = 24
+            flight = 1
+            deliver 0 = 0           # LISTED
+            """);
+        Script.edge(sends, Start.PENDING, """
+            deliver 0 = 1
+            crash 0 = 1
+            deliver 0 = 1           # LISTED
+            slot 1 0 2 = 1
+            flight = 1
+            deliver 0 = 0           # TAKEN
+            """);
+        Script.edge(sends, Start.PENDING, """
+            deliver 0 = 1 x 2
+            crash 1 = 1
+            deliver 0 = 1           # TAKEN
+            pins 0 = 0
+            """);
+        Script.edge(sends, Start.GOOD, """
+            drop 1 0 = 1
+            collect 1 = 1
+            crash 1 = 1
+            deliver 0 = 1           # CLEAN
+            listing 0 0 1 = 0
+            """);
+        Script.edge(sends, Start.GOOD, """
+            call 1 0 5 = 1
+            crash 1 = 1
+            deliver 0 = 1           # CALL
+            slot 0 0 2 = 5
+            flight = 1
+            deliver 0 = 0           # ANSWER
+            """);
+        Script.edge(sends, Start.GOOD, """
+            call 1 0 5 = 1
+            deliver 0 = 1
+            crash 0 = 1
+            deliver 0 = 1           # ANSWER
+            outcome 1 2 = 5
+            call 1 0 6 = 2          # to the crashed owner
+            tick 3 = 1
+            flight = 2              # and again
+            deliver 0 = 0 x 2
+            outcome 1 0 = 1
+            """);
+        Script.edge(sends, Start.GONE, """
+            crash 0 = 1
+            deliver 0 = 1           # GONE
+            slot 1 0 2 = 2
+            """);
+        Script.edge(sends, Start.LATE_CALL, """
+            deliver 3 = 1
+            crash 0 = 1
+            deliver 3 = 1           # NOOBJECT
+            outcome 1 0 = 3
+            """);
+    }
+
     private static void surrogates() {
         String state = "A SURROGATE has the serial, FIRST and SENT (below), an EXPIRY (a time), and a state: "
             + "it is STALE when the clock has come to its expiry; else it is PENDING or GOOD.";
@@ -397,6 +556,26 @@ final class EdgesOfTerms {
             outcome 1 0 = 1
             outcome 1 1 = 2
             """);
+        Script.edge(lost, Start.GOOD, """
+            tick 1 = 1
+            pass 0 0 1 0 = 1
+            copy 0 = 1 x 31
+            call 1 0 5 = 1          # lost, but sent at 1
+            lose 0 = 1
+            tick 2 = 1
+            flight = 31
+            tick 1 = 1
+            flight = 32
+            message 31 0 = 6
+            tick 3 = 1              # at 6 a DIRTY, at 7 the CALL again, both lost
+            flight = 32
+            lose 0 = 1 x 32
+            tick 2 = 1
+            flight = 0
+            tick 1 = 1
+            flight = 1              # at 10
+            message 0 0 = 6
+            """);
         Script.edge(lost, Start.THREE_PENDING, """
             copy 0 = 1 x 28
             flight = 31
@@ -447,39 +626,72 @@ final class EdgesOfTerms {
             deliver 31 = 1
             flight = 31
             """);
-        Script.edge("The kinds: 0 PASS, 1 TAKEN, 2 DIRTY, 3 LISTED, 4 GONE, 5 CLEAN, 6 CALL, 7 ANSWER, 8 NOOBJECT.", """
+    }
+
+    /** All nine kinds, with parts that differ from one another. */
+    private static void kinds() {
+        Script.edge("The kinds: 0 PASS, 1 TAKEN, 2 DIRTY, 3 LISTED, 4 GONE, 5 CLEAN, 6 CALL, 7 ANSWER, 8 NOOBJECT.",
+            """
             make 0 0 = 0
+            make 0 0 = 1
+            make 0 0 = 2
+            make 3 0 = 3
+            make 3 1 = 4
+            make 3 2 = 5
+            tick 5 = 1
             pass 0 0 1 0 = 0
-            message 0 0 = 0
+            pass 0 0 1 0 = 1
+            lose 0 = 1 x 2
+            pass 3 2 1 1 = 2
+            """, message(0, 0, 3, 1, 5, 2, 7), """
             deliver 0 = 1
-            message 0 0 = 2
-            deliver 0 = 1
-            message 0 0 = 3
-            deliver 0 = 1
-            message 0 0 = 1
-            deliver 0 = 1
-            call 1 0 5 = 1
-            message 0 0 = 6
-            deliver 0 = 1
-            message 0 0 = 7
-            deliver 0 = 1
-            drop 0 0 = 1
-            tick 12 = 1
-            tick 11 = 1
-            call 1 0 5 = 2
+            """, message(0, 2, 1, 3, 5, 1, 5), """
             tick 1 = 1
-            collect 0 = 1
-            deliver 3 = 1
-            message 3 0 = 8
             deliver 0 = 1
-            message 3 0 = 4
-            lose 0 = 1 x 4
-            tick 2 = 1
-            outcome 1 0 = 3
-            drop 1 0 = 1
+            """, message(0, 3, 3, 1, 5, 1, 5), """
+            deliver 0 = 1
+            """, message(0, 1, 1, 3, 5, 2, 0), """
+            deliver 0 = 1
+            call 1 1 9 = 1
+            """, message(0, 6, 1, 3, 5, 1, 9), """
+            deliver 0 = 1
+            """, message(0, 7, 3, 1, 5, 1, 9), """
+            deliver 0 = 1
+            call 1 1 4 = 2
+            deliver 0 = 1
+            """, message(0, 7, 3, 1, 5, 2, 13), """
+            deliver 0 = 1
+            pass 1 1 2 2 = 3
+            """, message(0, 0, 1, 2, 5, 3, 11), """
+            deliver 0 = 1
+            """, message(0, 2, 2, 3, 5, 1, 6), """
+            deliver 0 = 1
+            """, message(0, 3, 3, 2, 5, 1, 6), """
+            deliver 0 = 1
+            """, message(0, 1, 2, 1, 5, 3, 0), """
+            deliver 0 = 1
+            drop 1 1 = 1
             collect 1 = 1
-            message 0 0 = 5
-            """);
+            """, message(0, 5, 1, 3, 5, 2, 0), """
+            deliver 0 = 1
+            drop 3 2 = 1
+            tick 12 = 1
+            tick 11 = 1             # DIRTYs 2, 3, 4 at 12, 18, 24
+            call 2 2 8 = 1
+            tick 1 = 1
+            collect 3 = 1
+            deliver 3 = 1
+            """, message(3, 8, 3, 2, 5, 1, 0), """
+            deliver 2 = 1
+            """, message(3, 4, 3, 2, 5, 4, 24));
+    }
+
+    private static String message(int place, int... parts) {
+        StringBuilder lines = new StringBuilder();
+        for (int which = 0; which < parts.length; which++) {
+            lines.append("message " + place + " " + which + " = " + parts[which] + "\n");
+        }
+        return lines.toString();
     }
 
     private static void numbers() {
@@ -524,8 +736,12 @@ final class EdgesOfTerms {
             pass 2 0 3 0 = -2       # a refused one takes no id
             pass 1 0 3 0 = 3
             """);
-        Script.edge("A node SENDS A DIRTY for a surrogate: to the owner, with the serial, the node's next number, "
-            + "and the clock as EXTRA; the surrogate's SENT is the clock then.", """
+    }
+
+    private static void sent() {
+        String sent = "A node SENDS A DIRTY for a surrogate: to the owner, with the serial, the node's next number, "
+            + "and the clock as EXTRA; the surrogate's SENT is the clock then.";
+        Script.edge(sent, """
             make 3 0 = 0
             make 3 1 = 1
             tick 4 = 1
@@ -552,6 +768,27 @@ final class EdgesOfTerms {
             flight = 2
             tick 1 = 1
             flight = 3              # at 19
+            """);
+        Script.edge(sent, Start.PENDING, """
+            tick 3 = 1
+            deliver 0 = 1 x 3       # LISTED at 3 is no sending
+            tick 2 = 1
+            flight = 0
+            tick 1 = 1
+            flight = 1
+            message 0 5 = 6
+            """);
+        Script.edge(sent, Start.STALE, """
+            lose 0 = 1 x 3
+            tick 2 = 1
+            pass 0 0 1 0 = 1
+            deliver 0 = 1           # PENDING again: SENT at 26
+            flight = 1
+            tick 5 = 1
+            flight = 1
+            tick 1 = 1
+            flight = 2
+            message 1 5 = 32
             """);
     }
 
@@ -591,6 +828,23 @@ final class EdgesOfTerms {
             slot 1 0 2 = 1
             message 2 0 = 1
             message 2 4 = 1         # it owed pass 1, not pass 0
+            """);
+        Script.edge(becomes, """
+            make 2 0 = 0
+            make 0 0 = 1
+            pass 2 0 3 0 = 0
+            pass 0 0 1 0 = 1
+            deliver 1 = 1           # it owes pass 1
+            lose 0 = 1 x 2
+            tick 12 = 1
+            tick 12 = 1
+            slot 1 0 2 = 2
+            lose 0 = 1 x 3
+            pass 0 0 1 0 = 2
+            deliver 0 = 1           # and now pass 2
+            deliver 0 = 1 x 2
+            message 0 0 = 1
+            message 0 4 = 2
             """);
     }
 
