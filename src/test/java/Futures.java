@@ -2,9 +2,10 @@ import java.util.ArrayList;
 import java.util.List;
 
 /**
- * All that can be told of an object from outside: what the reading calls show of it, and what they show after some
- * futures, which bring to light what no reading call shows (the next serial, id and numbers, LAST, FIRST, SENT, the
- * pass that is owed, which slot is pinned and for how long, the replies that are kept, which node crashed).
+ * What can be told of an object from outside: what the reading calls show of it, and what they show after four
+ * futures. These bring to light what no reading call shows: the next serial, id and numbers, SENT, which slot is pinned
+ * and for how long, which node crashed, and, as far as messages in flight ask for them, LAST, FIRST, the pass that is
+ * owed and the replies that are kept.
  */
 final class Futures {
     private static final int MOST_IN_FLIGHT = 32;
