@@ -12,7 +12,7 @@ import java.util.TreeSet;
 import java.util.regex.Matcher;
 import java.util.regex.Pattern;
 
-/** The public face of the document, and those rules of LANGUAGE.md that can be seen from outside or by their words. */
+/** The public face as the document has it, and those rules of LANGUAGE.md that can be seen from outside or by words. */
 public final class FaceTest {
     private static final List<String> FACE = List.of(
         "int make(int, int)", "boolean link(int, int, int, int)", "boolean fetch(int, int, int, int)",
@@ -23,13 +23,23 @@ public final class FaceTest {
     private static final Pattern RULED_OUT = Pattern.compile(
         "\\b(import|package|throw|throws|try|catch|finally|synchronized|assert|volatile|transient|native)\\b|->|::");
 
+    /** What the program takes from the library, beside its own classes. */
+    private static final List<String> NAMES = List.of(
+        "LeasedReferences", "Message", "Network", "Slot", "Pin", "Request", "Node", "Math");
+    private static final Path PROGRAM = Path.of("src/main/java/LeasedReferences.java");
+    private static final Path DOCUMENT = Path.of("..", "shared", "DOC.md");
+    private static final int MOST_LINES = 60;
+
     private static int wrong = 0;
 
     public static void main(String[] args) throws Exception {
         publicFace();
+        faceOfTheDocument();
         nothingElseIsVisible();
         classesInside();
         ruledOutWords();
+        namesFromElsewhere();
+        shortMethods();
         System.out.println("the face: " + wrong + " faults");
         if (wrong != 0) {
             System.exit(1);
@@ -106,13 +116,67 @@ public final class FaceTest {
         }
     }
 
+    /** Every line of the face stands in the program as the document has it, and no other line is public. */
+    private static void faceOfTheDocument() throws Exception {
+        Matcher block = Pattern.compile("(?s)```java\n(.*?)```").matcher(Files.readString(DOCUMENT));
+        expect(block.find(), "the document has a face");
+        TreeSet<String> due = publicLines(block.group(1));
+        TreeSet<String> found = publicLines(Files.readString(PROGRAM));
+        expect(due.size() == FACE.size() + 4, "the face has the class, two constants, the constructor and the methods");
+        expect(found.equals(due), "the public lines are the document's: " + found);
+    }
+
+    private static TreeSet<String> publicLines(String text) {
+        TreeSet<String> lines = new TreeSet<>();
+        for (String line : text.split("\n")) {
+            if (line.strip().startsWith("public ")) {
+                lines.add(line.strip().replaceAll("( \\{|;)$", ""));
+            }
+        }
+        return lines;
+    }
+
+    private static String code() throws Exception {
+        return Files.readString(PROGRAM).replaceAll("(?s)/\\*.*?\\*/", "").replaceAll("//[^\n]*", "");
+    }
+
     private static void ruledOutWords() throws Exception {
-        String text = Files.readString(Path.of("src/main/java/LeasedReferences.java"));
-        String code = text.replaceAll("(?s)/\\*.*?\\*/", "").replaceAll("//[^\n]*", "");
-        Matcher m = RULED_OUT.matcher(code);
+        Matcher m = RULED_OUT.matcher(code());
         while (m.find()) {
             expect(false, "the program keeps out " + m.group());
         }
-        expect(text.chars().allMatch(c -> c == '\n' || c >= ' ' && c < 127), "the program is written in plain signs");
+        expect(Files.readString(PROGRAM).chars().allMatch(c -> c == '\n' || c >= ' ' && c < 127),
+            "the program is written in plain signs");
+    }
+
+    private static void namesFromElsewhere() throws Exception {
+        Matcher m = Pattern.compile("\\b[A-Z]\\w*[a-z]\\w*\\b").matcher(code());
+        while (m.find()) {
+            expect(NAMES.contains(m.group()), m.group() + " is a name of the program or of its library");
+        }
+        Matcher math = Pattern.compile("\\bMath\\.(\\w+)").matcher(code());
+        while (math.find()) {
+            expect(List.of("max", "min").contains(math.group(1)), "Math." + math.group(1) + " is one that is let in");
+        }
+    }
+
+    /** A method starts in a line that ends with ") {" and ends where a brace stands as far in as its first word. */
+    private static void shortMethods() throws Exception {
+        String[] lines = code().split("\n");
+        Pattern start = Pattern.compile("( {4}| {8})[a-zA-Z].*\\) \\{");
+        int methods = 0;
+        for (int i = 0; i < lines.length; i++) {
+            Matcher m = start.matcher(lines[i]);
+            boolean isStatement = lines[i].strip().matches("(if|for|while|switch|do)\\b.*");
+            if (m.matches() && !isStatement) {
+                int end = i;
+                while (end < lines.length && !lines[end].equals(m.group(1) + "}")) {
+                    end++;
+                }
+                methods++;
+                expect(end - i < MOST_LINES, "short is the method of the line " + lines[i].strip());
+            }
+        }
+        expect(methods > FACE.size(), "methods are found in the program");
     }
 }

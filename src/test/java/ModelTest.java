@@ -6,13 +6,14 @@ import java.util.TreeMap;
 
 /**
  * All promises: long runs of calls, drawn with fixed seeds, on the program and on PlainModel side by side. Short runs
- * end with a look at everything; long ones read now and then. None is longer than the document's 512 calls.
+ * end with a look at everything; long ones read now and then, and come to the document's 512th call.
  */
 public final class ModelTest {
     private static final int SHORT_RUNS = 12000;
     private static final int LONG_RUNS = 6000;
     private static final int MOST_CALLS = 512;
     private static final int MOST_IN_ONE_CHANGE = 16;
+    private static final int ENOUGH = 200;
     private static final int[] ODD = {-2, -1, 3, 4, 8, 13, 32, Integer.MAX_VALUE, Integer.MIN_VALUE};
     private static final String[] READS = {"flight", "message", "root", "slot", "listing", "pins", "outcome"};
 
@@ -21,7 +22,7 @@ public final class ModelTest {
     private final Subject model = new PlainModel();
     private final List<Call> done = new ArrayList<>();
     private final TreeMap<String, Integer> seen;
-    private final int[] weights = new int[13];
+    private final int[] weights = new int[14];
     private final boolean oldestFirst;
     private final int nodesInUse;
     private int clock = 0;
@@ -31,7 +32,7 @@ public final class ModelTest {
         seen = counts;
         oldestFirst = random.nextInt(3) == 0;
         nodesInUse = 2 + random.nextInt(3);
-        int[] usual = {6, 5, 4, 6, 14, 12, 40, 4, 5, 10, 6, 0, 1};
+        int[] usual = {6, 5, 4, 6, 14, 12, 40, 4, 5, 10, 6, 0, 1, 1};
         for (int i = 0; i < weights.length; i++) {
             weights[i] = usual[i] * (1 + random.nextInt(8));
         }
@@ -48,8 +49,8 @@ public final class ModelTest {
         }
         System.out.println(SHORT_RUNS + LONG_RUNS + " runs; messages that came: " + counts);
         for (int kind = 0; kind < 9; kind++) {
-            if (!counts.containsKey(kind + " kept")) {
-                System.out.println("no message of kind " + kind + " came and was not dropped: the runs are too poor");
+            if (counts.getOrDefault(kind + " kept", 0) < ENOUGH || counts.getOrDefault(kind + " dropped", 0) < ENOUGH) {
+                System.out.println("too few messages of kind " + kind + " came or were dropped: the runs are too poor");
                 wrong++;
             }
         }
@@ -77,6 +78,11 @@ public final class ModelTest {
     private boolean longRun() {
         while (done.size() < MOST_CALLS - MOST_IN_ONE_CHANGE) {
             if (!(random.nextInt(3) == 0 ? read() : change())) {
+                return false;
+            }
+        }
+        while (done.size() < MOST_CALLS) {
+            if (!read()) {
                 return false;
             }
         }
@@ -113,7 +119,8 @@ public final class ModelTest {
             case 9: return both("tick", 1 + below(random.nextBoolean() ? 4 : 12));
             case 10: return both("collect", node);
             case 11: return both("crash", node);
-            default: return lateCall(node);
+            case 12: return lateCall(node);
+            default: return latePass(node, below(nodesInUse));
         }
     }
 
@@ -133,12 +140,31 @@ public final class ModelTest {
             ok = both("tick", Math.min(left, 12));
         }
         ok = ok && both("call", node, root, 1);
-        int callPlace = model.answer("flight") - 1;
-        for (int i = 0; ok && i < 3; i++) {
-            ok = both("drop", owner, i);
+        int callPlace = newestPlace();
+        ok = ok && dropAll(owner) && both("tick", 1) && both("collect", owner) && both("deliver", callPlace);
+        return ok && both("deliver", random.nextInt(3) == 0 ? place() : newestPlace());
+    }
+
+    /** A PASS that comes when its pin has ended and the owner has freed the object, so that the DIRTY meets GONE. */
+    private boolean latePass(int node, int to) {
+        int root = below(3);
+        if (model.answer("slot", node, model.answer("root", node, root), 0) != 1) {
+            return true;
         }
-        ok = ok && both("tick", 1) && both("collect", owner) && both("deliver", callPlace);
-        return ok && both("deliver", random.nextInt(3) == 0 ? place() : model.answer("flight") - 1);
+        boolean ok = both("pass", node, root, to, below(3));
+        int passPlace = newestPlace();
+        ok = ok && dropAll(node) && both("tick", 12) && both("tick", 12) && both("collect", node);
+        ok = ok && both("deliver", passPlace) && both("deliver", newestPlace());
+        return ok && (random.nextInt(3) == 0 || both("copy", newestPlace()))
+            && both("deliver", random.nextInt(3) == 0 ? place() : newestPlace());
+    }
+
+    private boolean dropAll(int node) {
+        return both("drop", node, 0) && both("drop", node, 1) && both("drop", node, 2);
+    }
+
+    private int newestPlace() {
+        return model.answer("flight") - 1;
     }
 
     private boolean read() {
